@@ -623,7 +623,7 @@ public final class EclipseCheese {
     // ---- what the calls share
 
     private static int bit(int bits, int i) {
-        return bits >>> i & 1;
+        return (bits >>> i) & 1;
     }
 
     private void putBytes(int number) {
@@ -685,7 +685,7 @@ public final class EclipseCheese {
             otherNight.play(alp, presentSky(), calls, allTurners());
             int sum = otherNight.sum();
             boolean fewer = Integer.bitCount(calls) < Integer.bitCount(best);
-            if (sum > most || sum == most && fewer) {
+            if (sum > most || (sum == most && fewer)) {
                 most = sum;
                 best = calls;
             }
@@ -943,7 +943,7 @@ public final class EclipseCheese {
         void build(Alp alp, Held held, int leftOut) {
             minutes = alp.minutes;
             allHuts = (1 << alp.huts) - 1;
-            darkenNothing();
+            wipe();
             for (int e = 0; e < alp.eventCount; e++) {
                 if (e != leftOut) {
                     layEvent(alp.events[e]);
@@ -958,7 +958,7 @@ public final class EclipseCheese {
             findStirs(alp.almanac);
         }
 
-        private void darkenNothing() {
+        private void wipe() {
             for (int m = 0; m < minutes; m++) {
                 eclipsed[m] = false;
                 lightning[m] = false;
@@ -1093,7 +1093,7 @@ public final class EclipseCheese {
                 if (bit(done, c) == 0 && bit(huts, alp.cheeseHut[c]) == 1) {
                     mine |= 1 << c;
                     many++;
-                    hands[m] |= t + 1 << 4 * c;
+                    hands[m] |= (t + 1) << (4 * c);
                     rightTurns[t] += bit(sky.changed[m], alp.cheeseHut[c]);
                 }
             }
@@ -1161,7 +1161,7 @@ public final class EclipseCheese {
         }
 
         int turnerOf(int c, int m) {
-            int hand = hands[m] >>> 4 * c & 15;
+            int hand = (hands[m] >>> (4 * c)) & 15;
             return hand == 0 ? ABSENT : hand - 1;
         }
 
