@@ -15,6 +15,7 @@ public final class ActsEdgeTest {
         wakeOfLikeOnes();
         fewestFromNoneToFive();
         fewestOfLikeOnes();
+        fewestOfEightCheeses();
         fitsFromNoneToAllCheeses();
         fitsJustItsMinutes();
         byNoneToAllCalls();
@@ -169,6 +170,24 @@ public final class ActsEdgeTest {
             + ";turner z blind from 0 to 20 hands 1 takes 1 huts 0;turner y blind from 0 to 20 hands 1 takes 1 huts 0");
         CHECK.fine("one", one, one.fewest(), 1);
         CHECK.fine("fewer ahead of least bits", one, one.fewestBy(), 4);
+    }
+
+    private static void fewestOfEightCheeses() {
+        String text = "alp minutes 240 huts 4 prices 0,0,0,0,0;cloud 1 to 239;turner ta sees from 0 to 240 hands 7 takes 1 huts 0,1,2,3"
+            + ";turner tb sees from 0 to 240 hands 1 takes 1 huts 3";
+        for (int i = 0; i < 8; i++) {
+            text += ";cheese c" + (char) ('a' + i) + " hut " + i % 4;
+        }
+        EclipseCheese x = Check.alp(text);
+        CHECK.fine("the eighth needs another", x, x.fewest(), 2);
+        CHECK.fine("both", x, x.fewestBy(), 3);
+        CHECK.same("nothing is missed", Check.seen(x, 0), Check.THROWN);
+        EclipseCheese eight = Check.alp(text.replace("hands 7", "hands 8"));
+        CHECK.fine("eight hands", eight, eight.fewest(), 1);
+        CHECK.fine("his", eight, eight.fewestBy(), 1);
+        EclipseCheese six = Check.alp(text.replace("hands 7", "hands 6"));
+        CHECK.fine("too few hands", six, six.fewest(), -2);
+        CHECK.same("the seventh misses", Check.seen(six, 0), 6);
     }
 
     /* "Cheeses that a SLICE is of, as bits". */
