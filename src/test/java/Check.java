@@ -1,5 +1,7 @@
 import java.nio.charset.StandardCharsets;
 import java.util.NoSuchElementException;
+import java.util.function.IntUnaryOperator;
+import java.util.function.ToIntFunction;
 
 /** What the tests share: feeding of texts, comparison of answers, the exit code. */
 final class Check {
@@ -7,6 +9,7 @@ final class Check {
     static final int THROWN = -777;
 
     private final String name;
+    private String about = "";
     private int asked;
     private int wrong;
 
@@ -14,12 +17,17 @@ final class Check {
         this.name = name;
     }
 
+    /** What stands ahead of each wrong answer from here on. */
+    void about(String words) {
+        about = words;
+    }
+
     void same(String what, long got, long want) {
         asked++;
         if (got != want) {
             wrong++;
             if (wrong <= 40) {
-                System.out.println(name + ": " + what + " answered " + got + ", due is " + want);
+                System.out.println(name + ": " + about + what + " answered " + got + ", due is " + want);
             }
         }
     }
@@ -44,6 +52,53 @@ final class Check {
 
     void fine(String what, EclipseCheese x, boolean got) {
         refused(what, x, got ? 1 : 0, 1, 0);
+    }
+
+    /** The answers of all minutes, a sign each; 2 for -2. */
+    void row(String what, EclipseCheese x, IntUnaryOperator asked, String due) {
+        StringBuilder got = new StringBuilder();
+        for (int m = 0; m < x.size(0); m++) {
+            got.append(Math.abs(asked.applyAsInt(m)));
+            same(what + " trouble in " + m, x.trouble(), 0);
+        }
+        same(what + " " + got + " for " + due, got.toString().equals(due), true);
+    }
+
+    void sound(String text, int cheeses) {
+        EclipseCheese x = new EclipseCheese();
+        fine("alp of " + text, x, tell(x, text), cheeses);
+        same("fault of " + text, x.fault(), 0);
+        same("where of " + text, x.where(), -1);
+    }
+
+    /** The place is told by a ^ ahead of it. */
+    void fault(int number, String marked) {
+        int place = marked.indexOf('^');
+        EclipseCheese x = new EclipseCheese();
+        refused("alp of " + marked, x, tell(x, marked.replace("^", "")), -1, 4);
+        same("fault of " + marked, x.fault(), number);
+        same("where of " + marked, x.where(), place);
+        same("minutes of " + marked, x.size(0), 0);
+    }
+
+    /** A WHOLE at # from least to most; seen, if there is one, answers from the ALP what the WHOLE was. */
+    void bounds(String text, int least, int most, ToIntFunction<EclipseCheese> seen) {
+        for (int value : new int[] {least, least + 1, most - 1, most}) {
+            String told = text.replace("#", Integer.toString(value));
+            sound(told, 1);
+            if (seen != null) {
+                same("seen of " + told, seen.applyAsInt(alp(told)), value);
+            }
+        }
+        if (least > 0) {
+            fault(4, text.replace("#", "^" + (least - 1)));
+            fault(4, text.replace("#", "^0"));
+            fault(4, text.replace("#", "^000"));
+        }
+        fault(4, text.replace("#", "^" + (most + 1)));
+        fault(4, text.replace("#", "^999"));
+        fault(1, text.replace("#", "^-1"));
+        fault(1, text.replace("#", "^1000"));
     }
 
     void end() {

@@ -1,11 +1,19 @@
+import java.io.IOException;
 import java.lang.reflect.Constructor;
 import java.lang.reflect.Field;
 import java.lang.reflect.Method;
 import java.lang.reflect.Modifier;
+import java.nio.file.Files;
+import java.nio.file.Path;
+import java.util.ArrayList;
+import java.util.List;
+import java.util.NoSuchElementException;
 import java.util.Set;
 import java.util.TreeSet;
+import java.util.regex.Matcher;
+import java.util.regex.Pattern;
 
-/** The public face is the document's and nothing more (LANGUAGE.md, rule 1). */
+/** The public face is the document's and nothing more (LANGUAGE.md, rule 1), its parts under the names that the document tells. */
 public final class FaceTest {
     private static final String[] DUE = {
         "int feed(int,int,int,int,int)", "int alp(int)", "int fault()", "int where()", "int sky(int)",
@@ -17,8 +25,18 @@ public final class FaceTest {
         "int draw()", "boolean lift()", "boolean seed(int)", "boolean undo()", "int mark()", "boolean back(int)",
         "int event(int,int)", "int led(int)", "int size(int)", "int trouble()"};
 
-    public static void main(String[] args) {
+    private static final Path SOURCE = Path.of("src", "main", "java", "EclipseCheese.java");
+    private static final Path DOCUMENT = Path.of("..", "shared", "DOC.md");
+
+    public static void main(String[] args) throws IOException {
         Check check = new Check("FaceTest");
+        members(check);
+        exceptions(check);
+        parts(check);
+        check.end();
+    }
+
+    private static void members(Check check) {
         Set<String> due = new TreeSet<>(Set.of(DUE));
         Set<String> seen = new TreeSet<>();
         Set<String> publicNames = new TreeSet<>();
@@ -49,7 +67,49 @@ public final class FaceTest {
         check.same("final", Modifier.isFinal(EclipseCheese.class.getModifiers()), true);
         check.same("classes", EclipseCheese.class.getDeclaredClasses().length <= 12, true);
         check.same("NONE", EclipseCheese.NONE, -1);
-        check.end();
+    }
+
+    /** Only led() says that it throws; the import of what it throws stands in the face. */
+    private static void exceptions(Check check) throws IOException {
+        for (Method m : EclipseCheese.class.getDeclaredMethods()) {
+            Class<?>[] thrown = m.getExceptionTypes();
+            check.same("throws of " + m.getName(), thrown.length, m.getName().equals("led") ? 1 : 0);
+            check.same("throws of " + m.getName(), thrown.length == 0 || thrown[0] == NoSuchElementException.class, true);
+        }
+        check.same("throws of the constructor", EclipseCheese.class.getDeclaredConstructors()[0].getExceptionTypes().length, 0);
+        String source = Files.readString(SOURCE);
+        check.same("import", source.contains("\nimport java.util.NoSuchElementException;\n"), true);
+        check.same("no package", source.contains("\npackage ") || source.startsWith("package "), false);
+    }
+
+    /** "Ahead of the calls .. the interface says: ----": the same parts, with the same calls, in the same order; and the face as told. */
+    private static void parts(Check check) throws IOException {
+        if (!Files.exists(DOCUMENT)) {
+            return;
+        }
+        String document = Files.readString(DOCUMENT);
+        List<String> source = found(Files.readString(SOURCE), "(?m)^    // (---- .*)$|^    public (?:int|boolean) (\\w+)\\(");
+        List<String> due = new ArrayList<>();
+        Matcher ahead = Pattern.compile("Ahead of the calls (.*) the interface says: (---- .*)\\.").matcher(document);
+        while (ahead.find()) {
+            due.add(ahead.group(2));
+            due.addAll(List.of(ahead.group(1).replace("`", "").split(", ")));
+        }
+        check.same("parts " + source + " for " + due, source.size() >= due.size() && source.subList(0, due.size()).equals(due), true);
+        Set<String> told = new TreeSet<>();
+        for (String line : found(document, "(?m)^    public ((?:int|boolean) \\w+\\(.*\\)).*;$")) {
+            told.add(line.replaceAll("(int|boolean) \\w+(?=[,)])", "$1").replace(", ", ","));
+        }
+        check.same("the document's face " + told, told.equals(new TreeSet<>(Set.of(DUE))), true);
+    }
+
+    private static List<String> found(String text, String pattern) {
+        List<String> all = new ArrayList<>();
+        Matcher matcher = Pattern.compile(pattern).matcher(text);
+        while (matcher.find()) {
+            all.add(matcher.group(1) != null ? matcher.group(1) : matcher.group(2));
+        }
+        return all;
     }
 
     private static String told(Method m) {

@@ -1,5 +1,3 @@
-import java.util.function.IntUnaryOperator;
-
 /**
  * The edges of Terms II and of promises 6 to 21, a method for each sentence: minute 0, the first and the last minute of
  * all that lasts, hands and takes, prices at 0.
@@ -51,16 +49,6 @@ public final class NightEdgeTest {
         CHECK.end();
     }
 
-    /** The answers of all minutes, a sign each; 2 for -2. */
-    private static void row(String what, EclipseCheese x, IntUnaryOperator asked, String due) {
-        StringBuilder got = new StringBuilder();
-        for (int m = 0; m < x.size(0); m++) {
-            got.append(Math.abs(asked.applyAsInt(m)));
-            CHECK.same(what + " trouble in " + m, x.trouble(), 0);
-        }
-        CHECK.same(what + " " + got + " for " + due, got.toString().equals(due), true);
-    }
-
     private static void changeMinutes(String text, int hut, int... due) {
         EclipseCheese x = Check.alp(text);
         CHECK.fine("changes of " + text, x, x.changes(hut, false), due.length);
@@ -75,37 +63,37 @@ public final class NightEdgeTest {
     /* "dark in an eclipse; else bright in a minute of lightning (bolt); else dark in a cloud ..; else bright". */
     private static void eclipseAheadOfBoltAheadOfCloud() {
         EclipseCheese x = Check.alp(TEN + ";cloud 1 to 2;cloud 3 to 4;cloud 5 to 6;cloud 7 to 8;bolt 2;bolt 3;bolt 6;bolt 7;eclipse 4 to 8");
-        row("sky", x, x::sky, "1011000011");
+        CHECK.row("sky", x, x::sky, "1011000011");
     }
 
     /* "dark while it is shuttered, else as THE SKY. It SEEMS bright while a lamp burns there, else .. as it is". */
     private static void shutterAheadOfSkyAndLampAheadOfAll() {
         EclipseCheese x = Check.alp(TEN + ";cloud 1 to 2;cloud 3 to 4;cloud 5 to 6;cloud 7 to 8;shutter 0 2 to 4;shutter 0 6 to 8;lamp 0 4 to 8");
-        row("light", x, m -> x.light(0, m, false), "1000100011");
-        row("seems", x, m -> x.light(0, m, true), "1000111111");
-        row("another hut", x, m -> x.light(1, m, false), "1010101011");
-        row("another hut seems", x, m -> x.light(1, m, true), "1010101011");
+        CHECK.row("light", x, m -> x.light(0, m, false), "1000100011");
+        CHECK.row("seems", x, m -> x.light(0, m, true), "1000111111");
+        CHECK.row("another hut", x, m -> x.light(1, m, false), "1010101011");
+        CHECK.row("another hut seems", x, m -> x.light(1, m, true), "1010101011");
         EclipseCheese dark = Check.alp(TEN + ";eclipse 0 to 10;lamp 1 4 to 6;bolt 5");
-        row("lamp in an eclipse", dark, m -> dark.light(1, m, true), "0000110000");
-        row("and no lamp", dark, m -> dark.light(0, m, true), "0000000000");
+        CHECK.row("lamp in an eclipse", dark, m -> dark.light(1, m, true), "0000110000");
+        CHECK.row("and no lamp", dark, m -> dark.light(0, m, true), "0000000000");
     }
 
     /* "minutes from the first to ahead of the second". */
     private static void eventsLastFromTheFirstToAheadOfTheSecond() {
         for (String sort : new String[] {";cloud ", ";eclipse ", ";shutter 0 "}) {
             EclipseCheese x = Check.alp(TEN + sort + "3 to 6");
-            row(sort, x, m -> x.light(0, m, false), "1110001111");
+            CHECK.row(sort, x, m -> x.light(0, m, false), "1110001111");
             EclipseCheese first = Check.alp(TEN + sort + "0 to 1");
-            row(sort, first, m -> first.light(0, m, false), "0111111111");
+            CHECK.row(sort, first, m -> first.light(0, m, false), "0111111111");
             EclipseCheese last = Check.alp(TEN + sort + "9 to 10");
-            row(sort, last, m -> last.light(0, m, false), "1111111110");
+            CHECK.row(sort, last, m -> last.light(0, m, false), "1111111110");
             EclipseCheese all = Check.alp(TEN + sort + "0 to 10");
-            row(sort, all, m -> all.light(0, m, false), "0000000000");
+            CHECK.row(sort, all, m -> all.light(0, m, false), "0000000000");
         }
         EclipseCheese lamps = Check.alp(TEN + ";cloud 0 to 10;lamp 0 0 to 1;lamp 0 3 to 6;lamp 0 9 to 10");
-        row("lamps", lamps, m -> lamps.light(0, m, true), "1001110001");
+        CHECK.row("lamps", lamps, m -> lamps.light(0, m, true), "1001110001");
         EclipseCheese bolts = Check.alp(TEN + ";cloud 0 to 10;bolt 0;bolt 4;bolt 9");
-        row("bolts", bolts, bolts::sky, "1000100001");
+        CHECK.row("bolts", bolts, bolts::sky, "1000100001");
     }
 
     /* "A hut CHANGES in a minute (but 0) ..; it SEEMS to if what it SEEMS isn't". */
@@ -187,7 +175,7 @@ public final class NightEdgeTest {
 
     private static void dueInTheFirstAndTheLastMinute() {
         EclipseCheese x = Check.alp(TEN + ";cheese b hut 1;cheese c hut 1;cloud 0 to 1;shutter 1 9 to 10");
-        row("due", x, x::due, "0300000002");
+        CHECK.row("due", x, x::due, "0300000002");
         CHECK.refused("due -1", x, x.due(-1), -1, 2);
         CHECK.refused("due 10", x, x.due(10), -1, 2);
         StringBuilder eight = new StringBuilder(TEN + ";cloud 1 to 10");
@@ -207,26 +195,26 @@ public final class NightEdgeTest {
     /* "A turner is AWAKE in his minutes": from the first to ahead of the second. */
     private static void awakeInHisMinutes() {
         EclipseCheese x = Check.alp(awakeText("deaf"));
-        row("his minutes", x, m -> x.awake(0, m), "00000111000000000000");
+        CHECK.row("his minutes", x, m -> x.awake(0, m), "00000111000000000000");
         CHECK.same("how many", x.work(0, 3), 3);
         EclipseCheese all = Check.alp(TEN + ";turner t deaf" + ALWAYS);
-        row("all minutes", all, m -> all.awake(0, m), "1111111111");
+        CHECK.row("all minutes", all, m -> all.awake(0, m), "1111111111");
         CHECK.same("minute 0 counts", all.work(0, 3), 10);
         EclipseCheese last = Check.alp(TEN + ";turner t deaf from 9 to 10 hands 1 takes 1 huts 0");
-        row("the last", last, m -> last.awake(0, m), "0000000001");
+        CHECK.row("the last", last, m -> last.awake(0, m), "0000000001");
     }
 
     /* "if he isn't deaf, in an eclipse, too". */
     private static void awakeInAnEclipse() {
         for (String kind : new String[] {"sees", "blind", "almanac"}) {
             EclipseCheese x = Check.alp(awakeText(kind));
-            row(kind, x, m -> x.awake(0, m), "00000111000011100000");
+            CHECK.row(kind, x, m -> x.awake(0, m), "00000111000011100000");
             CHECK.same("how many", x.work(0, 3), 6);
         }
         EclipseCheese ends = Check.alp(TEN + ";eclipse 0 to 1;eclipse 9 to 10;turner t sees from 4 to 5 hands 1 takes 1 huts 0");
-        row("first and last", ends, m -> ends.awake(0, m), "1000100001");
+        CHECK.row("first and last", ends, m -> ends.awake(0, m), "1000100001");
         EclipseCheese dark = Check.alp(TEN + ";cloud 0 to 10;shutter 0 0 to 10;turner t sees from 4 to 5 hands 1 takes 1 huts 0");
-        row("other dark wakes none", dark, m -> dark.awake(0, m), "0000100000");
+        CHECK.row("other dark wakes none", dark, m -> dark.awake(0, m), "0000100000");
     }
 
     /* "for so many minutes from that of a CALL on that is made for him". */
@@ -234,22 +222,22 @@ public final class NightEdgeTest {
         for (String kind : new String[] {"sees", "blind", "almanac"}) {
             EclipseCheese x = Check.alp(awakeText(kind));
             x.call(1, true);
-            row("another's call", x, m -> x.awake(0, m), "00000111000011100000");
+            CHECK.row("another's call", x, m -> x.awake(0, m), "00000111000011100000");
             x.call(0, true);
-            row("his call", x, m -> x.awake(0, m), "00000111000011100110");
+            CHECK.row("his call", x, m -> x.awake(0, m), "00000111000011100110");
             x.call(0, false);
-            row("not any more", x, m -> x.awake(0, m), "00000111000011100000");
+            CHECK.row("not any more", x, m -> x.awake(0, m), "00000111000011100000");
         }
         EclipseCheese deaf = Check.alp(awakeText("deaf"));
         deaf.call(0, true);
-        row("the deaf", deaf, m -> deaf.awake(0, m), "00000111000000000000");
+        CHECK.row("the deaf", deaf, m -> deaf.awake(0, m), "00000111000000000000");
         String turner = TEN + ";turner t sees from 4 to 5 hands 1 takes 1 huts 0";
         EclipseCheese first = Check.alp(turner + ";call t at 0 for 1 costs 1");
         first.call(0, true);
-        row("in minute 0", first, m -> first.awake(0, m), "1000100000");
+        CHECK.row("in minute 0", first, m -> first.awake(0, m), "1000100000");
         EclipseCheese last = Check.alp(turner + ";call t at 9 for 60 costs 1");
         last.call(0, true);
-        row("beyond the end", last, m -> last.awake(0, m), "0000100001");
+        CHECK.row("beyond the end", last, m -> last.awake(0, m), "0000100001");
         CHECK.same("how many", last.work(0, 3), 2);
     }
 
@@ -258,7 +246,7 @@ public final class NightEdgeTest {
             + ";call t at 5 for 3 costs 1;call t at 5 for 3 costs 1");
         x.call(0, true);
         x.call(1, true);
-        row("one on another", x, m -> x.awake(0, m), "0001111100");
+        CHECK.row("one on another", x, m -> x.awake(0, m), "0001111100");
         CHECK.same("minutes", x.work(0, 3), 5);
     }
 
@@ -270,14 +258,14 @@ public final class NightEdgeTest {
     /* "sees, deaf: that it SEEMS to CHANGE; blind: that it CHANGES; almanac: a minute of the almanac". */
     private static void noticesByKinds() {
         EclipseCheese x = Check.alp(fourKinds());
-        row("sees", x, m -> x.notices(0, 0, m), "0010000011");
-        row("blind", x, m -> x.notices(1, 0, m), "0001000101");
-        row("deaf", x, m -> x.notices(2, 0, m), "0010000011");
-        row("almanac", x, m -> x.notices(3, 0, m), "1000100001");
-        row("sees, not his", x, m -> x.notices(0, 1, m), "0001000000");
-        row("almanac, not his", x, m -> x.notices(3, 1, m), "1000100001");
+        CHECK.row("sees", x, m -> x.notices(0, 0, m), "0010000011");
+        CHECK.row("blind", x, m -> x.notices(1, 0, m), "0001000101");
+        CHECK.row("deaf", x, m -> x.notices(2, 0, m), "0010000011");
+        CHECK.row("almanac", x, m -> x.notices(3, 0, m), "1000100001");
+        CHECK.row("sees, not his", x, m -> x.notices(0, 1, m), "0001000000");
+        CHECK.row("almanac, not his", x, m -> x.notices(3, 1, m), "1000100001");
         EclipseCheese none = Check.alp(TEN + ";turner w almanac" + ALWAYS);
-        row("no almanac told", none, m -> none.notices(0, 0, m), "0000000000");
+        CHECK.row("no almanac told", none, m -> none.notices(0, 0, m), "0000000000");
     }
 
     private static void noticesInMinuteNought() {
@@ -293,8 +281,8 @@ public final class NightEdgeTest {
     /* "THE NIGHT, from minute 1 on". */
     private static void nightBeginsInMinuteOne() {
         EclipseCheese x = Check.alp(TEN + ";almanac 0,1;turner w almanac" + ALWAYS);
-        row("turned", x, m -> x.turned(0, m), "2022222222");
-        row("up", x, m -> x.up(0, m), "1000000000");
+        CHECK.row("turned", x, m -> x.turned(0, m), "2022222222");
+        CHECK.row("up", x, m -> x.up(0, m), "1000000000");
         CHECK.same("he turns once", x.work(0, 0), 1);
         CHECK.same("in one minute", x.work(0, 2), 1);
         CHECK.same("one vein", x.cheese(0, 1), 1);
@@ -302,13 +290,13 @@ public final class NightEdgeTest {
         EclipseCheese busy = Check.alp(TEN + ";almanac 0,1;turner w almanac from 0 to 10 hands 1 takes 20 huts 0");
         CHECK.same("minute 0 makes none busy", busy.turned(0, 1), 0);
         EclipseCheese sees = Check.alp(TEN + ";cloud 0 to 1;turner s sees" + ALWAYS);
-        row("a change in 1", sees, m -> sees.turned(0, m), "2022222222");
+        CHECK.row("a change in 1", sees, m -> sees.turned(0, m), "2022222222");
     }
 
     private static void nightEndsInTheLastMinute() {
         EclipseCheese x = Check.alp(TEN + ";cloud 9 to 10;turner s sees" + ALWAYS);
-        row("turned", x, m -> x.turned(0, m), "2222222220");
-        row("up", x, m -> x.up(0, m), "1111111110");
+        CHECK.row("turned", x, m -> x.turned(0, m), "2222222220");
+        CHECK.row("up", x, m -> x.up(0, m), "1111111110");
         CHECK.same("right", x.cheese(0, 2), 1);
         EclipseCheese long240 = Check.alp(TEN.replace("10", "240") + ";almanac 239;turner w almanac from 239 to 240 hands 1 takes 1 huts 0");
         CHECK.same("in 239", long240.turned(0, 239), 0);
@@ -339,12 +327,12 @@ public final class NightEdgeTest {
         String[] due = {"2000000000", "2020202020", "2022022022", "2022202220", "2022220222"};
         for (int takes = 1; takes <= 5; takes++) {
             EclipseCheese x = Check.alp(every + takes + " huts 0");
-            row("takes " + takes, x, m -> x.turned(0, m), due[takes - 1]);
+            CHECK.row("takes " + takes, x, m -> x.turned(0, m), due[takes - 1]);
         }
         EclipseCheese once = Check.alp(every + "9 huts 0");
-        row("takes 9", once, m -> once.turned(0, m), "2022222222");
+        CHECK.row("takes 9", once, m -> once.turned(0, m), "2022222222");
         EclipseCheese twice = Check.alp(every + "8 huts 0");
-        row("takes 8", twice, m -> twice.turned(0, m), "2022222220");
+        CHECK.row("takes 8", twice, m -> twice.turned(0, m), "2022222220");
     }
 
     /* "if any, he is free again takes minutes later". */
@@ -434,7 +422,7 @@ public final class NightEdgeTest {
         CHECK.same("who missed", Check.seen(x, 0), 0);
         CHECK.same("fewest", x.fewest(), -2);
         EclipseCheese blind = Check.alp(text + ";turner b blind" + ALWAYS);
-        row("the blind", blind, m -> blind.turned(0, m), "2220220222");
+        CHECK.row("the blind", blind, m -> blind.turned(0, m), "2220220222");
         CHECK.same("right", blind.cheese(0, 2), 2);
     }
 
@@ -459,8 +447,8 @@ public final class NightEdgeTest {
     /* "It lies up at first (down, if told), each turn changes that". */
     private static void upAtFirstAndBehindEachTurn() {
         EclipseCheese x = Check.alp(TEN + ";cheese b hut 0 down;almanac 1,4,9;turner w almanac" + ALWAYS);
-        row("up", x, m -> x.up(0, m), "1000111110");
-        row("down", x, m -> x.up(1, m), "0111000001");
+        CHECK.row("up", x, m -> x.up(0, m), "1000111110");
+        CHECK.row("down", x, m -> x.up(1, m), "0111000001");
     }
 
     /* "CRACKED: the minutes of lightning ..". */

@@ -1,5 +1,3 @@
-import java.util.function.ToIntFunction;
-
 /**
  * The edges of Terms I, a method for each sentence: of every WHOLE the last values that are taken and the first that
  * are refused, with the place; of every LINE the last for which there is room and the one more.
@@ -55,43 +53,6 @@ public final class TextEdgeTest {
     }
 
     // ---- what the methods share
-
-    private static void sound(String text, int cheeses) {
-        EclipseCheese x = new EclipseCheese();
-        CHECK.fine("alp of " + text, x, Check.tell(x, text), cheeses);
-        CHECK.same("fault of " + text, x.fault(), 0);
-        CHECK.same("where of " + text, x.where(), -1);
-    }
-
-    /** The place is told by a ^ ahead of it. */
-    private static void fault(int number, String marked) {
-        int place = marked.indexOf('^');
-        EclipseCheese x = new EclipseCheese();
-        CHECK.refused("alp of " + marked, x, Check.tell(x, marked.replace("^", "")), -1, 4);
-        CHECK.same("fault of " + marked, x.fault(), number);
-        CHECK.same("where of " + marked, x.where(), place);
-        CHECK.same("minutes of " + marked, x.size(0), 0);
-    }
-
-    /** A WHOLE at # from least to most; seen, if there is one, answers from the ALP what the WHOLE was. */
-    private static void bounds(String text, int least, int most, ToIntFunction<EclipseCheese> seen) {
-        for (int value : new int[] {least, least + 1, most - 1, most}) {
-            String told = text.replace("#", Integer.toString(value));
-            sound(told, 1);
-            if (seen != null) {
-                CHECK.same("seen of " + told, seen.applyAsInt(Check.alp(told)), value);
-            }
-        }
-        if (least > 0) {
-            fault(4, text.replace("#", "^" + (least - 1)));
-            fault(4, text.replace("#", "^0"));
-            fault(4, text.replace("#", "^000"));
-        }
-        fault(4, text.replace("#", "^" + (most + 1)));
-        fault(4, text.replace("#", "^999"));
-        fault(1, text.replace("#", "^-1"));
-        fault(1, text.replace("#", "^1000"));
-    }
 
     private static String cheeseNames(int many) {
         StringBuilder text = new StringBuilder();
@@ -155,33 +116,33 @@ public final class TextEdgeTest {
 
     /* "blanks, 32, part TOKENS and mean nothing else". */
     private static void blanksMeanNothing() {
-        sound(HEAD + CHEESE, 1);
-        sound("   " + (HEAD + CHEESE).replace(",", " , ").replace(";", "   ;   ").replace(" ", "  ") + "    ", 1);
-        sound((HEAD + CHEESE).replace("minutes ", "minutes").replace(" huts ", "huts").replace(" prices ", "prices"), 1);
-        fault(1, "^a lp minutes 20 huts 3 prices 1,2,3,4,5");
-        fault(1, "alp minutes 20 ^0 huts 3 prices 1,2,3,4,5");
-        fault(1, "^alpminut es 20");
+        CHECK.sound(HEAD + CHEESE, 1);
+        CHECK.sound("   " + (HEAD + CHEESE).replace(",", " , ").replace(";", "   ;   ").replace(" ", "  ") + "    ", 1);
+        CHECK.sound((HEAD + CHEESE).replace("minutes ", "minutes").replace(" huts ", "huts").replace(" prices ", "prices"), 1);
+        CHECK.fault(1, "^a lp minutes 20 huts 3 prices 1,2,3,4,5");
+        CHECK.fault(1, "alp minutes 20 ^0 huts 3 prices 1,2,3,4,5");
+        CHECK.fault(1, "^alpminut es 20");
     }
 
     /* "WORDS of 1 to 8 small letters that stand together". */
     private static void wordsHaveOneToEightLetters() {
-        sound(HEAD + "cheese z hut 0", 1);
-        sound(HEAD + "cheese zzzzzzzz hut 0", 1);
-        fault(1, HEAD + "cheese ^zzzzzzzzz hut 0");
-        fault(1, HEAD + "cheese ^" + "z".repeat(13) + " hut 0");
-        fault(1, HEAD + "cheese ^" + "z".repeat(64) + " hut 0");
-        sound(HEAD + "cheese zzzzzzzy hut 0;cheese zzzzzzzz hut 0;cheese yzzzzzzz hut 0;cheese zzzzzzz hut 0", 4);
-        fault(3, HEAD + "cheese zzzzzzzy hut 0;cheese zzzzzzzz hut 0;cheese ^zzzzzzzy hut 0");
-        fault(1, HEAD + "cheese ^A hut 0");
-        fault(1, HEAD + "cheese a^Z hut 0");
+        CHECK.sound(HEAD + "cheese z hut 0", 1);
+        CHECK.sound(HEAD + "cheese zzzzzzzz hut 0", 1);
+        CHECK.fault(1, HEAD + "cheese ^zzzzzzzzz hut 0");
+        CHECK.fault(1, HEAD + "cheese ^" + "z".repeat(13) + " hut 0");
+        CHECK.fault(1, HEAD + "cheese ^" + "z".repeat(64) + " hut 0");
+        CHECK.sound(HEAD + "cheese zzzzzzzy hut 0;cheese zzzzzzzz hut 0;cheese yzzzzzzz hut 0;cheese zzzzzzz hut 0", 4);
+        CHECK.fault(3, HEAD + "cheese zzzzzzzy hut 0;cheese zzzzzzzz hut 0;cheese ^zzzzzzzy hut 0");
+        CHECK.fault(1, HEAD + "cheese ^A hut 0");
+        CHECK.fault(1, HEAD + "cheese a^Z hut 0");
     }
 
     /* "WHOLES of 1 to 3 digits that do". */
     private static void wholesHaveOneToThreeDigits() {
-        sound(HEAD.replace("50", "0") + CHEESE, 1);
-        sound(HEAD.replace("50", "099") + CHEESE, 1);
-        fault(1, HEAD.replace("50", "^0099") + CHEESE);
-        fault(1, HEAD.replace("50", "^4294967296") + CHEESE);
+        CHECK.sound(HEAD.replace("50", "0") + CHEESE, 1);
+        CHECK.sound(HEAD.replace("50", "099") + CHEESE, 1);
+        CHECK.fault(1, HEAD.replace("50", "^0099") + CHEESE);
+        CHECK.fault(1, HEAD.replace("50", "^4294967296") + CHEESE);
         CHECK.same("099", Check.alp(HEAD.replace("50", "099") + CHEESE).total(), 99);
         CHECK.same("000", Check.alp(HEAD.replace("50", "000") + CHEESE).total(), 0);
     }
@@ -190,19 +151,19 @@ public final class TextEdgeTest {
     private static void bytesThatBeginNoToken() {
         for (int sign : new int[] {0, 9, 10, 31, 33, 43, 45, 46, 47, 58, 60, 64, 65, 90, 91, 95, 96, 123, 127, 128, 160, 255}) {
             String byteAsText = String.valueOf((char) sign);
-            fault(1, HEAD + CHEESE + "^" + byteAsText);
-            fault(1, HEAD + CHEESE + ";bolt ^" + byteAsText);
-            fault(1, "^" + byteAsText + HEAD);
+            CHECK.fault(1, HEAD + CHEESE + "^" + byteAsText);
+            CHECK.fault(1, HEAD + CHEESE + ";bolt ^" + byteAsText);
+            CHECK.fault(1, "^" + byteAsText + HEAD);
         }
-        sound(HEAD + "cheese az hut 0;bolt 09;bolt 10", 1);
+        CHECK.sound(HEAD + "cheese az hut 0;bolt 09;bolt 10", 1);
     }
 
     // ---- LINES: bounds
 
     /* "alp minutes WHOLE huts WHOLE ..: 10 .. 240; 1 .. 4". */
     private static void minutesAndHuts() {
-        bounds("alp minutes # huts 1 prices 1,1,1,1,1;cheese a hut 0", 10, 240, x -> x.size(0));
-        bounds("alp minutes 10 huts # prices 1,1,1,1,1;cheese a hut 0", 1, 4, x -> x.size(1));
+        CHECK.bounds("alp minutes # huts 1 prices 1,1,1,1,1;cheese a hut 0", 10, 240, x -> x.size(0));
+        CHECK.bounds("alp minutes 10 huts # prices 1,1,1,1,1;cheese a hut 0", 1, 4, x -> x.size(1));
         EclipseCheese least = Check.alp("alp minutes 10 huts 1 prices 1,1,1,1,1;cheese a hut 0");
         CHECK.fine("minute 9", least, least.sky(9), 1);
         CHECK.refused("minute 10", least, least.sky(10), -1, 2);
@@ -216,43 +177,43 @@ public final class TextEdgeTest {
     /* "base, vein, mite, crack, false, 0 .. 99 each". */
     private static void prices() {
         String night = ";cheese a hut 0;cloud 5 to 20;almanac 5,7;turner t almanac from 0 to 20 hands 1 takes 1 huts 0";
-        bounds("alp minutes 20 huts 1 prices #,0,0,0,0;cheese a hut 0", 0, 99, EclipseCheese::total);
-        bounds("alp minutes 20 huts 1 prices 99,#,99,99,99;cheese a hut 0;cloud 5 to 20"
+        CHECK.bounds("alp minutes 20 huts 1 prices #,0,0,0,0;cheese a hut 0", 0, 99, EclipseCheese::total);
+        CHECK.bounds("alp minutes 20 huts 1 prices 99,#,99,99,99;cheese a hut 0;cloud 5 to 20"
             + ";turner t sees from 0 to 20 hands 1 takes 1 huts 0", 0, 99, x -> x.total() - 99);
-        bounds("alp minutes 20 huts 1 prices 99,99,#,99,99;cheese a hut 0;cloud 5 to 20", 0, 99, x -> 99 - x.total());
-        bounds("alp minutes 20 huts 1 prices 99,99,99,#,99;cheese a hut 0;bolt 5", 0, 99, x -> 99 - x.total());
-        bounds("alp minutes 20 huts 1 prices 99,0,99,99,#" + night, 0, 99, x -> 99 - x.total());
+        CHECK.bounds("alp minutes 20 huts 1 prices 99,99,#,99,99;cheese a hut 0;cloud 5 to 20", 0, 99, x -> 99 - x.total());
+        CHECK.bounds("alp minutes 20 huts 1 prices 99,99,99,#,99;cheese a hut 0;bolt 5", 0, 99, x -> 99 - x.total());
+        CHECK.bounds("alp minutes 20 huts 1 prices 99,0,99,99,#" + night, 0, 99, x -> 99 - x.total());
     }
 
     /* "minutes from the first to ahead of the second, which is above it and no more than there are". */
     private static void spansOfEvents() {
         for (String sort : new String[] {"cloud ", "eclipse ", "lamp 1 ", "shutter 2 "}) {
-            bounds(HEAD + CHEESE + ";" + sort + "# to 20", 0, 19, x -> x.event(0, 2));
-            bounds(HEAD + CHEESE + ";" + sort + "0 to #", 1, 20, x -> x.event(0, 3));
-            bounds(HEAD + CHEESE + ";" + sort + "17 to #", 18, 20, x -> x.event(0, 3));
-            fault(4, HEAD + CHEESE + ";" + sort + "17 to ^17");
-            fault(4, HEAD + CHEESE + ";" + sort + "17 to ^3");
-            fault(4, HEAD + CHEESE + ";" + sort + "^20 to 20");
+            CHECK.bounds(HEAD + CHEESE + ";" + sort + "# to 20", 0, 19, x -> x.event(0, 2));
+            CHECK.bounds(HEAD + CHEESE + ";" + sort + "0 to #", 1, 20, x -> x.event(0, 3));
+            CHECK.bounds(HEAD + CHEESE + ";" + sort + "17 to #", 18, 20, x -> x.event(0, 3));
+            CHECK.fault(4, HEAD + CHEESE + ";" + sort + "17 to ^17");
+            CHECK.fault(4, HEAD + CHEESE + ";" + sort + "17 to ^3");
+            CHECK.fault(4, HEAD + CHEESE + ";" + sort + "^20 to 20");
         }
     }
 
     /* "the hut first, if there is one"; "Huts have numbers from 0 on". */
     private static void hutsOfEvents() {
-        bounds(HEAD + CHEESE + ";lamp # 1 to 2", 0, 2, x -> x.event(0, 1));
-        bounds(HEAD + CHEESE + ";shutter # 1 to 2", 0, 2, x -> x.event(0, 1));
-        fault(1, HEAD + CHEESE + ";cloud 0 ^1 to 2");
-        fault(1, HEAD + CHEESE + ";eclipse 0 ^1 to 2");
-        fault(1, HEAD + CHEESE + ";bolt 0 ^1");
-        fault(1, HEAD + CHEESE + ";lamp 1 ^to 2");
+        CHECK.bounds(HEAD + CHEESE + ";lamp # 1 to 2", 0, 2, x -> x.event(0, 1));
+        CHECK.bounds(HEAD + CHEESE + ";shutter # 1 to 2", 0, 2, x -> x.event(0, 1));
+        CHECK.fault(1, HEAD + CHEESE + ";cloud 0 ^1 to 2");
+        CHECK.fault(1, HEAD + CHEESE + ";eclipse 0 ^1 to 2");
+        CHECK.fault(1, HEAD + CHEESE + ";bolt 0 ^1");
+        CHECK.fault(1, HEAD + CHEESE + ";lamp 1 ^to 2");
     }
 
     private static void bolts() {
-        bounds(HEAD + CHEESE + ";bolt #", 0, 19, x -> x.event(0, 2));
-        bounds(HEAD + CHEESE + ";bolt #", 0, 19, x -> x.event(0, 3) - 1);
+        CHECK.bounds(HEAD + CHEESE + ";bolt #", 0, 19, x -> x.event(0, 2));
+        CHECK.bounds(HEAD + CHEESE + ";bolt #", 0, 19, x -> x.event(0, 3) - 1);
     }
 
     private static void cheeses() {
-        bounds(HEAD + "cheese a hut #", 0, 2, x -> x.cheese(0, 0));
+        CHECK.bounds(HEAD + "cheese a hut #", 0, 2, x -> x.cheese(0, 0));
         CHECK.same("up", Check.alp(HEAD + CHEESE).up(0, 0), 1);
         CHECK.same("perhaps down", Check.alp(HEAD + CHEESE + " down").up(0, 0), 0);
         EclipseCheese each = Check.alp(HEAD + "cheese a hut 0 down;cheese b hut 0;cheese c hut 0 down");
@@ -271,12 +232,12 @@ public final class TextEdgeTest {
     /* "almanac WHOLE {, WHOLE} (minutes, rising; ..)"; "a minute not above the one ahead; at it". */
     private static void almanacMinutes() {
         String turner = ";turner t almanac from 0 to 20 hands 1 takes 1 huts 0";
-        bounds(HEAD + CHEESE + turner + ";almanac #", 0, 19, x -> firstNoticed(x, 0));
-        bounds(HEAD + CHEESE + turner + ";almanac 7,#", 8, 19, x -> firstNoticed(x, 8));
-        bounds(HEAD + CHEESE + turner + ";almanac 0,7,16,#", 17, 19, x -> firstNoticed(x, 17));
-        fault(4, HEAD + "almanac 7,^7");
-        fault(4, HEAD + "almanac 19,^19");
-        fault(4, HEAD + "almanac 0,^0");
+        CHECK.bounds(HEAD + CHEESE + turner + ";almanac #", 0, 19, x -> firstNoticed(x, 0));
+        CHECK.bounds(HEAD + CHEESE + turner + ";almanac 7,#", 8, 19, x -> firstNoticed(x, 8));
+        CHECK.bounds(HEAD + CHEESE + turner + ";almanac 0,7,16,#", 17, 19, x -> firstNoticed(x, 17));
+        CHECK.fault(4, HEAD + "almanac 7,^7");
+        CHECK.fault(4, HEAD + "almanac 19,^19");
+        CHECK.fault(4, HEAD + "almanac 0,^0");
     }
 
     /* "slice WHOLE {, WHOLE} (minutes, rising; ..)". */
@@ -287,10 +248,10 @@ public final class TextEdgeTest {
             CHECK.same("slice " + m, x.fits(0), 1);
             CHECK.same("slice ahead of " + m, x.fits(1), 0);
         }
-        bounds(HEAD + CHEESE + ";bolt 0;slice #", 0, 19, null);
-        bounds(HEAD + CHEESE + ";slice 7,#", 8, 19, null);
-        fault(4, HEAD + "slice 7,^7");
-        fault(4, HEAD + "slice 19,^19");
+        CHECK.bounds(HEAD + CHEESE + ";bolt 0;slice #", 0, 19, null);
+        CHECK.bounds(HEAD + CHEESE + ";slice 7,#", 8, 19, null);
+        CHECK.fault(4, HEAD + "slice 7,^7");
+        CHECK.fault(4, HEAD + "slice 19,^19");
     }
 
     private static int firstAwake(EclipseCheese x) {
@@ -315,9 +276,9 @@ public final class TextEdgeTest {
     private static void turnerMinutes() {
         for (String kind : new String[] {"sees", "blind", "deaf", "almanac"}) {
             String turner = HEAD + CHEESE + ";turner t " + kind;
-            bounds(turner + " from # to 20 hands 1 takes 1 huts 0", 0, 19, TextEdgeTest::firstAwake);
-            bounds(turner + " from 0 to # hands 1 takes 1 huts 0", 1, 20, TextEdgeTest::endOfAwake);
-            bounds(turner + " from 17 to # hands 1 takes 1 huts 0", 18, 20, TextEdgeTest::endOfAwake);
+            CHECK.bounds(turner + " from # to 20 hands 1 takes 1 huts 0", 0, 19, TextEdgeTest::firstAwake);
+            CHECK.bounds(turner + " from 0 to # hands 1 takes 1 huts 0", 1, 20, TextEdgeTest::endOfAwake);
+            CHECK.bounds(turner + " from 17 to # hands 1 takes 1 huts 0", 18, 20, TextEdgeTest::endOfAwake);
         }
     }
 
@@ -327,9 +288,9 @@ public final class TextEdgeTest {
         for (int hands = 1; hands <= 8; hands++) {
             CHECK.same("hands " + hands, Check.alp(eight + hands + " takes 1 huts 0").work(0, 0), hands);
         }
-        fault(4, eight + "^0 takes 1 huts 0");
-        fault(4, eight + "^9 takes 1 huts 0");
-        fault(4, eight + "^10 takes 1 huts 0");
+        CHECK.fault(4, eight + "^0 takes 1 huts 0");
+        CHECK.fault(4, eight + "^9 takes 1 huts 0");
+        CHECK.fault(4, eight + "^10 takes 1 huts 0");
     }
 
     /* "takes WHOLE (.. 1 .. 20)": the hut CHANGES in every minute from 1 to 25. */
@@ -338,25 +299,25 @@ public final class TextEdgeTest {
         for (int m = 2; m <= 24; m += 2) {
             text.append(";bolt ").append(m);
         }
-        bounds(text + ";turner t sees from 0 to 40 hands 1 takes # huts 0", 1, 20, x -> x.vein(0, 1) - x.vein(0, 0));
+        CHECK.bounds(text + ";turner t sees from 0 to 40 hands 1 takes # huts 0", 1, 20, x -> x.vein(0, 1) - x.vein(0, 0));
     }
 
     /* "huts WHOLE {, WHOLE} (.. unlike huts ..)". */
     private static void turnerHuts() {
         String turner = HEAD + CHEESE + ";turner t sees from 0 to 20 hands 1 takes 1 huts ";
-        sound(turner + "0", 1);
-        sound(turner + "2", 1);
-        sound(turner + "2,0,1", 1);
-        fault(4, turner + "^3");
-        fault(4, turner + "0,1,2,^3");
-        fault(3, turner + "0,^0");
-        fault(3, turner + "2,1,^2");
-        fault(3, turner + "0,1,2,^0");
+        CHECK.sound(turner + "0", 1);
+        CHECK.sound(turner + "2", 1);
+        CHECK.sound(turner + "2,0,1", 1);
+        CHECK.fault(4, turner + "^3");
+        CHECK.fault(4, turner + "0,1,2,^3");
+        CHECK.fault(3, turner + "0,^0");
+        CHECK.fault(3, turner + "2,1,^2");
+        CHECK.fault(3, turner + "0,1,2,^0");
         String four = "alp minutes 10 huts 4 prices 1,1,1,1,1;cheese a hut 3;cloud 4 to 10;turner t sees from 0 to 10 hands 1 takes 1 huts ";
         CHECK.same("four huts", Check.alp(four + "0,1,2,3").work(0, 0), 1);
         CHECK.same("three huts", Check.alp(four + "0,1,2").work(0, 0), 0);
-        fault(3, four + "3,2,1,0,^3");
-        fault(4, four + "3,2,1,0,^4");
+        CHECK.fault(3, four + "3,2,1,0,^3");
+        CHECK.fault(4, four + "3,2,1,0,^4");
     }
 
     private static EclipseCheese called(EclipseCheese x) {
@@ -367,18 +328,18 @@ public final class TextEdgeTest {
     /* "call TURNER at WHOLE for WHOLE costs WHOLE (a minute; 1 .. 60; 0 .. 99; ..)". */
     private static void callMinutes() {
         String text = "alp minutes 20 huts 1 prices 1,1,1,1,1;cheese a hut 0;turner t sees from 19 to 20 hands 1 takes 1 huts 0";
-        bounds(text + ";call t at # for 1 costs 0", 0, 19, x -> firstAwake(called(x)));
+        CHECK.bounds(text + ";call t at # for 1 costs 0", 0, 19, x -> firstAwake(called(x)));
     }
 
     private static void callLasts() {
         String text = "alp minutes 240 huts 1 prices 1,1,1,1,1;cheese a hut 0;turner t sees from 0 to 1 hands 1 takes 1 huts 0";
-        bounds(text + ";call t at 100 for # costs 0", 1, 60, x -> called(x).work(0, 3) - 1);
-        bounds(text + ";call t at 1 for # costs 0", 1, 60, x -> endOfAwake(called(x)) - 1);
+        CHECK.bounds(text + ";call t at 100 for # costs 0", 1, 60, x -> called(x).work(0, 3) - 1);
+        CHECK.bounds(text + ";call t at 1 for # costs 0", 1, 60, x -> endOfAwake(called(x)) - 1);
     }
 
     private static void callCosts() {
         String text = "alp minutes 240 huts 1 prices 99,1,1,1,1;cheese a hut 0;turner t sees from 0 to 1 hands 1 takes 1 huts 0";
-        bounds(text + ";call t at 100 for 1 costs #", 0, 99, x -> x.total() - called(x).total());
+        CHECK.bounds(text + ";call t at 100 for 1 costs #", 0, 99, x -> x.total() - called(x).total());
     }
 
     /* The bounds of minutes and huts are those of the ALP that is read, not those of the one that stands. */
@@ -405,10 +366,10 @@ public final class TextEdgeTest {
             CHECK.same("the last is there", x.event(13, 2), x.event(0, 2));
             CHECK.refused("no fifteenth", x, x.event(14, 0), -1, 1);
             for (String more : sorts) {
-                fault(5, full + ";^" + more);
+                CHECK.fault(5, full + ";^" + more);
             }
-            fault(5, full + ";^bolt");
-            fault(5, full + ";  ^lamp 9");
+            CHECK.fault(5, full + ";^bolt");
+            CHECK.fault(5, full + ";  ^lamp 9");
         }
         CHECK.same("thirteen", Check.alp(HEAD + CHEESE + ";bolt 3".repeat(13)).size(2), 13);
         CHECK.same("none", Check.alp(HEAD + CHEESE).size(2), 0);
@@ -416,11 +377,11 @@ public final class TextEdgeTest {
 
     /* "cheese .. (up to 8)". */
     private static void cheesesUpToEight() {
-        sound(HEAD + cheeseNames(1), 1);
-        sound(HEAD + cheeseNames(7), 7);
-        sound(HEAD + cheeseNames(8), 8);
-        fault(5, HEAD + cheeseNames(8) + ";^cheese x hut 0");
-        fault(5, HEAD + cheeseNames(8) + ";^cheese");
+        CHECK.sound(HEAD + cheeseNames(1), 1);
+        CHECK.sound(HEAD + cheeseNames(7), 7);
+        CHECK.sound(HEAD + cheeseNames(8), 8);
+        CHECK.fault(5, HEAD + cheeseNames(8) + ";^cheese x hut 0");
+        CHECK.fault(5, HEAD + cheeseNames(8) + ";^cheese");
         EclipseCheese x = Check.alp(HEAD + cheeseNames(8));
         CHECK.fine("the eighth", x, x.cheese(7, 6), 50);
         CHECK.refused("no ninth", x, x.cheese(8, 6), -1, 1);
@@ -444,8 +405,8 @@ public final class TextEdgeTest {
         }
         EclipseCheese five = Check.alp(turners(5));
         CHECK.fine("the fifth", five, five.work(4, 3), 16);
-        fault(5, turners(5) + ";^turner x sees from 0 to 20 hands 1 takes 1 huts 0");
-        fault(5, turners(5) + ";^turner ta");
+        CHECK.fault(5, turners(5) + ";^turner x sees from 0 to 20 hands 1 takes 1 huts 0");
+        CHECK.fault(5, turners(5) + ";^turner ta");
     }
 
     /* "call .. (.. up to 6)". */
@@ -459,8 +420,8 @@ public final class TextEdgeTest {
         EclipseCheese six = Check.alp(HEAD + CHEESE + TURNER + call.repeat(6));
         CHECK.fine("the sixth", six, six.call(5, true));
         CHECK.same("its bit", six.calls(), 32);
-        fault(5, HEAD + CHEESE + TURNER + call.repeat(6) + ";^call t at 1 for 1 costs 1");
-        fault(5, HEAD + CHEESE + TURNER + call.repeat(6) + ";^call unknown");
+        CHECK.fault(5, HEAD + CHEESE + TURNER + call.repeat(6) + ";^call t at 1 for 1 costs 1");
+        CHECK.fault(5, HEAD + CHEESE + TURNER + call.repeat(6) + ";^call unknown");
     }
 
     /* "slice .. (.. up to 4 such LINES)". */
@@ -472,26 +433,26 @@ public final class TextEdgeTest {
         }
         EclipseCheese four = Check.alp(HEAD + CHEESE + ";slice 1".repeat(4));
         CHECK.fine("the fourth", four, four.fits(3), 0);
-        fault(5, HEAD + CHEESE + ";slice 1".repeat(4) + ";^slice 1");
-        fault(5, HEAD + CHEESE + ";slice 1".repeat(4) + ";^slice 99");
+        CHECK.fault(5, HEAD + CHEESE + ";slice 1".repeat(4) + ";^slice 1");
+        CHECK.fault(5, HEAD + CHEESE + ";slice 1".repeat(4) + ";^slice 99");
     }
 
     /* "almanac .. once"; "a second alp, almanac; at that WORD". */
     private static void almanacOnce() {
         CHECK.same("none", Check.alp(HEAD + CHEESE).size(8), 0);
         CHECK.same("one", Check.alp(HEAD + CHEESE + ";almanac 5").size(8), 1);
-        fault(3, HEAD + CHEESE + ";almanac 5;^almanac 6");
-        fault(3, HEAD + CHEESE + ";almanac 5;bolt 3;^almanac");
-        fault(3, HEAD + "almanac " + EIGHT + ";^almanac 8");
+        CHECK.fault(3, HEAD + CHEESE + ";almanac 5;^almanac 6");
+        CHECK.fault(3, HEAD + CHEESE + ";almanac 5;bolt 3;^almanac");
+        CHECK.fault(3, HEAD + "almanac " + EIGHT + ";^almanac 8");
         EclipseCheese x = Check.alp(HEAD + CHEESE + ";almanac 5");
         CHECK.same("a new text has its own", Check.tell(x, HEAD + CHEESE + ";almanac 6,7"), 1);
         CHECK.same("which counts", x.size(8), 2);
     }
 
     private static void alpOnce() {
-        fault(3, HEAD + "^alp");
-        fault(3, HEAD + CHEESE + ";^alp minutes 10 huts 1 prices 1,1,1,1,1");
-        fault(3, HEAD + CHEESE + ";bolt 3;^alp 7");
+        CHECK.fault(3, HEAD + "^alp");
+        CHECK.fault(3, HEAD + CHEESE + ";^alp minutes 10 huts 1 prices 1,1,1,1,1");
+        CHECK.fault(3, HEAD + CHEESE + ";bolt 3;^alp 7");
     }
 
     /* "(minutes, rising; up to 8; ..)". */
@@ -505,10 +466,10 @@ public final class TextEdgeTest {
             CHECK.same("slice of " + many, x.fits(0), 1);
             CHECK.same("veins " + many, x.cheese(0, 1), many);
         }
-        fault(1, HEAD + CHEESE + ";almanac^");
-        fault(1, HEAD + CHEESE + ";almanac^;bolt 3");
-        fault(1, HEAD + CHEESE + ";slice^");
-        fault(1, HEAD + CHEESE + ";slice ^,1");
+        CHECK.fault(1, HEAD + CHEESE + ";almanac^");
+        CHECK.fault(1, HEAD + CHEESE + ";almanac^;bolt 3");
+        CHECK.fault(1, HEAD + CHEESE + ";slice^");
+        CHECK.fault(1, HEAD + CHEESE + ";slice ^,1");
     }
 
     private static void oneFullSortLeavesRoomForOthers() {
@@ -526,13 +487,13 @@ public final class TextEdgeTest {
     /* "a minute more of almanac, slice than may be: at it". */
     private static void aNinthMinute() {
         for (String list : new String[] {"almanac ", "slice "}) {
-            sound(HEAD + CHEESE + ";" + list + EIGHT, 1);
-            sound(HEAD + CHEESE + ";" + list + EIGHT + ";bolt 3", 1);
-            fault(5, HEAD + CHEESE + ";" + list + EIGHT + ",^8");
-            fault(5, HEAD + CHEESE + ";" + list + EIGHT + " ,  ^19 ;x");
-            fault(5, HEAD + CHEESE + ";" + list + EIGHT + ",^8,9,10");
-            fault(1, HEAD + CHEESE + ";" + list + EIGHT + ",^");
-            fault(1, HEAD + CHEESE + ";" + list + EIGHT + ",^;");
+            CHECK.sound(HEAD + CHEESE + ";" + list + EIGHT, 1);
+            CHECK.sound(HEAD + CHEESE + ";" + list + EIGHT + ";bolt 3", 1);
+            CHECK.fault(5, HEAD + CHEESE + ";" + list + EIGHT + ",^8");
+            CHECK.fault(5, HEAD + CHEESE + ";" + list + EIGHT + " ,  ^19 ;x");
+            CHECK.fault(5, HEAD + CHEESE + ";" + list + EIGHT + ",^8,9,10");
+            CHECK.fault(1, HEAD + CHEESE + ";" + list + EIGHT + ",^");
+            CHECK.fault(1, HEAD + CHEESE + ";" + list + EIGHT + ",^;");
         }
     }
 
@@ -542,29 +503,29 @@ public final class TextEdgeTest {
     private static void alpAheadOfAllOthers() {
         String[] words = {"cloud", "eclipse", "lamp", "shutter", "bolt", "cheese", "almanac", "turner", "call", "slice"};
         for (String word : words) {
-            fault(6, "^" + word);
-            fault(6, "   ^" + word + " 1 to 2;" + HEAD + CHEESE);
-            fault(6, "^" + word + ";" + HEAD);
+            CHECK.fault(6, "^" + word);
+            CHECK.fault(6, "   ^" + word + " 1 to 2;" + HEAD + CHEESE);
+            CHECK.fault(6, "^" + word + ";" + HEAD);
         }
-        fault(1, "^down");
-        fault(1, "^minutes");
-        fault(1, "^x;" + HEAD);
+        CHECK.fault(1, "^down");
+        CHECK.fault(1, "^minutes");
+        CHECK.fault(1, "^x;" + HEAD);
     }
 
     /* "at the end: no cheese". */
     private static void noCheese() {
         String bare = HEAD.substring(0, HEAD.length() - 1);
-        fault(6, bare + "^");
-        fault(6, bare + "    ^");
-        fault(6, bare + TURNER + ";call t at 1 for 1 costs 1;slice 3;almanac 4;bolt 5^");
-        sound(bare + ";" + CHEESE, 1);
+        CHECK.fault(6, bare + "^");
+        CHECK.fault(6, bare + "    ^");
+        CHECK.fault(6, bare + TURNER + ";call t at 1 for 1 costs 1;slice 3;almanac 4;bolt 5^");
+        CHECK.sound(bare + ";" + CHEESE, 1);
     }
 
     /* "(the end: its place)". */
     private static void theEndAndItsPlace() {
-        fault(1, "^");
-        fault(1, " ^");
-        fault(1, " ".repeat(20) + "^");
+        CHECK.fault(1, "^");
+        CHECK.fault(1, " ^");
+        CHECK.fault(1, " ".repeat(20) + "^");
         endsAtEachToken("", "alp minutes 20 huts 3 prices 1 , 2 , 3 , 4 , 5 #", 6);
         endsAtEachToken(HEAD + CHEESE, "down # ; cloud 1 to 2 # ; eclipse 1 to 2 # ; lamp 0 1 to 2 # ; shutter 0 1 to 2 #"
             + " ; bolt 1 # ; almanac 1 # , 2 # ; slice 1 # , 2 # , 3 # ; cheese b hut 2 #", 0);
@@ -587,10 +548,10 @@ public final class TextEdgeTest {
                 continue;
             }
             if (marked && faultAtMarks == 0) {
-                sound(read, read.contains("cheese b") ? 2 : 1);
+                CHECK.sound(read, read.contains("cheese b") ? 2 : 1);
             } else {
-                fault(marked ? faultAtMarks : 1, read + "^");
-                fault(marked ? faultAtMarks : 1, read + "  ^");
+                CHECK.fault(marked ? faultAtMarks : 1, read + "^");
+                CHECK.fault(marked ? faultAtMarks : 1, read + "  ^");
             }
         }
     }
@@ -610,56 +571,56 @@ public final class TextEdgeTest {
 
     /* "TOKEN with which no ALP goes on": without any one TOKEN, that behind it. */
     private static void eachTokenLeftOut() {
-        sound(joined(0, TOKENS.length), 1);
+        CHECK.sound(joined(0, TOKENS.length), 1);
         for (int i = 0; i < TOKENS.length; i++) {
             if (TOKENS[i].equals("down")) {
-                sound(joined(0, i) + joined(i + 1, TOKENS.length), 1);
+                CHECK.sound(joined(0, i) + joined(i + 1, TOKENS.length), 1);
             } else if (!TOKENS[i].startsWith("~")) {
-                fault(1, joined(0, i) + "^" + joined(i + 1, TOKENS.length));
+                CHECK.fault(1, joined(0, i) + "^" + joined(i + 1, TOKENS.length));
             }
         }
-        fault(1, HEAD + "cheese hut ^0");
-        fault(1, HEAD + "lamp 1 ^to 2");
-        fault(1, HEAD + "shutter 1 ^to 2");
-        fault(1, HEAD + "turner sees ^from 0 to 20 hands 1 takes 1 huts 0");
-        fault(2, HEAD + "call ^at 1 for 1 costs 1");
+        CHECK.fault(1, HEAD + "cheese hut ^0");
+        CHECK.fault(1, HEAD + "lamp 1 ^to 2");
+        CHECK.fault(1, HEAD + "shutter 1 ^to 2");
+        CHECK.fault(1, HEAD + "turner sees ^from 0 to 20 hands 1 takes 1 huts 0");
+        CHECK.fault(2, HEAD + "call ^at 1 for 1 costs 1");
     }
 
     private static void eachTokenTwice() {
         for (int i = 0; i < TOKENS.length; i++) {
             boolean hut = i > 0 && (TOKENS[i - 1].equals("lamp") || TOKENS[i - 1].equals("shutter"));
             if (!hut) {
-                fault(1, joined(0, i + 1) + "^" + joined(i, TOKENS.length));
+                CHECK.fault(1, joined(0, i + 1) + "^" + joined(i, TOKENS.length));
             }
         }
-        fault(1, HEAD + "lamp 0 0 ^1 to 2");
-        fault(1, HEAD + "shutter 0 0 ^1 to 2");
+        CHECK.fault(1, HEAD + "lamp 0 0 ^1 to 2");
+        CHECK.fault(1, HEAD + "shutter 0 0 ^1 to 2");
     }
 
     /* "of one place the least number". */
     private static void leastNumberOfOnePlace() {
-        fault(1, HEAD + "^");
-        fault(1, HEAD + "bolt 3;^");
-        fault(1, HEAD + "call ^alp");
-        fault(1, HEAD + "call ^down at 1 for 1 costs 1");
-        fault(4, HEAD + "slice " + EIGHT + ",^7");
-        fault(4, HEAD + "almanac " + EIGHT + ",^20");
-        fault(3, HEAD + CHEESE + ";turner ^a");
-        fault(2, HEAD + CHEESE + ";call ^a");
-        fault(5, HEAD + cheeseNames(8) + ";^cheese ca hut 9");
+        CHECK.fault(1, HEAD + "^");
+        CHECK.fault(1, HEAD + "bolt 3;^");
+        CHECK.fault(1, HEAD + "call ^alp");
+        CHECK.fault(1, HEAD + "call ^down at 1 for 1 costs 1");
+        CHECK.fault(4, HEAD + "slice " + EIGHT + ",^7");
+        CHECK.fault(4, HEAD + "almanac " + EIGHT + ",^20");
+        CHECK.fault(3, HEAD + CHEESE + ";turner ^a");
+        CHECK.fault(2, HEAD + CHEESE + ";call ^a");
+        CHECK.fault(5, HEAD + cheeseNames(8) + ";^cheese ca hut 9");
     }
 
     /* "the first that is met from the left". */
     private static void firstFromTheLeft() {
-        fault(4, HEAD + "bolt ^20;bolt X");
-        fault(1, HEAD + "bolt ^X;bolt 20");
-        fault(1, HEAD + "bolt 19 ^X");
-        fault(3, HEAD + CHEESE + ";cheese ^a hut 9");
-        fault(4, HEAD + CHEESE + ";cheese b hut ^9;cheese a hut 0");
-        fault(2, HEAD + "call ^t at 99 for 0 costs 0");
-        fault(4, "alp minutes ^9 huts 9 prices 100,100,100,100,100");
-        fault(4, "alp minutes 10 huts ^9 prices 100,100,100,100,100");
-        fault(4, "alp minutes 10 huts 1 prices 99,99,99,99,^100;cheese a hut 9");
-        fault(6, "^cheese a hut 0;cheese a hut 0;X");
+        CHECK.fault(4, HEAD + "bolt ^20;bolt X");
+        CHECK.fault(1, HEAD + "bolt ^X;bolt 20");
+        CHECK.fault(1, HEAD + "bolt 19 ^X");
+        CHECK.fault(3, HEAD + CHEESE + ";cheese ^a hut 9");
+        CHECK.fault(4, HEAD + CHEESE + ";cheese b hut ^9;cheese a hut 0");
+        CHECK.fault(2, HEAD + "call ^t at 99 for 0 costs 0");
+        CHECK.fault(4, "alp minutes ^9 huts 9 prices 100,100,100,100,100");
+        CHECK.fault(4, "alp minutes 10 huts ^9 prices 100,100,100,100,100");
+        CHECK.fault(4, "alp minutes 10 huts 1 prices 99,99,99,99,^100;cheese a hut 9");
+        CHECK.fault(6, "^cheese a hut 0;cheese a hut 0;X");
     }
 }
